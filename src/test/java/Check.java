@@ -1,0 +1,41 @@
+/** Counts answers that are not the ones that are due, and ends a test. */
+final class Check {
+    /** A call whose answer, or whose exception, is looked at. */
+    interface Call {
+        Object answer();
+    }
+
+    private int wrong = 0;
+
+    void due(String call, Object want, Call made) {
+        String got = told(made);
+        if (!got.equals(String.valueOf(want))) {
+            wrong++;
+            System.out.println(call + " answered " + got + ", due is " + want);
+        }
+    }
+
+    void noIndex(String call, Call made) {
+        due(call, "throws.IndexOutOfBoundsException", made);
+    }
+
+    void noArgument(String call, Call made) {
+        due(call, "throws.IllegalArgumentException", made);
+    }
+
+    void end() {
+        System.out.println(wrong == 0 ? "all answers are as due" : wrong + " answers are not as due");
+        if (wrong != 0) {
+            System.exit(1);
+        }
+    }
+
+    /** The exception's own class, so that one below the class that is due is seen as wrong. */
+    static String told(Call made) {
+        try {
+            return String.valueOf(made.answer());
+        } catch (RuntimeException e) {
+            return "throws." + e.getClass().getSimpleName();
+        }
+    }
+}
