@@ -12,10 +12,13 @@ public final class MachineTest {
         noSeed();
         bitsOfASeed();
         chainsSharingStages();
+        lastCellOfAll();
         fills();
+        fillFromTheFirstCell();
         fillLeavesSeeds();
         signatureByHand();
         signatureOverPatterns();
+        signatureOfTheLast();
         signatureRefuses();
         primitive();
         aliases();
@@ -80,6 +83,7 @@ public final class MachineTest {
         check.due("tap 0", true, () -> x.machine(0, true));
         check.due("tap 0 again", false, () -> x.machine(0, true));
         check.due("untap 0", true, () -> x.machine(0, false));
+        check.due("untap 0 again", false, () -> x.machine(0, false));
         check.noArgument("untap the last", () -> x.machine(7, false));
         check.due("it is tapped still", false, () -> x.machine(7, true));
         int[] wrong = {-1, 8, 16, 32, 39, Integer.MIN_VALUE, Integer.MAX_VALUE};
@@ -182,6 +186,32 @@ public final class MachineTest {
         check.due("they cannot differ", 1, () -> x.seed(0));
     }
 
+    /** Degree 16: chain 3 hears stage 0 first; chain 0 alone hears stage 1 then. */
+    private static void lastCellOfAll() {
+        PackSeeds x = with(4, 8, 1);
+        x.degree(16);
+        x.care(0, 3, 7, 1);
+        check.due("seed(0)", 0, () -> x.seed(0));
+        check.due("seedOf(0)", 1, () -> x.seedOf(0));
+        check.due("what it makes", "00000010 01000000 00000000 00000001", () -> bits(x, 0, 4, 8));
+        x.care(0, 0, 6, 0);
+        check.due("stage 0 cannot be both", 1, () -> x.seed(0));
+        x.care(0, 0, 6, NONE);
+        x.care(0, 0, 7, 1);
+        x.seed(0);
+        check.due("stages 0 and 1", 3, () -> x.seedOf(0));
+    }
+
+    private static void fillFromTheFirstCell() {
+        PackSeeds x = with(2, 5, 1);
+        x.fill(2);
+        x.care(0, 0, 1, 0);
+        x.care(0, 0, 3, 1);
+        x.care(0, 1, 0, 1);
+        x.care(0, 1, 3, 0);
+        check.due("a lesser number goes before a nearer one", "00011 11100", () -> bits(x, 0, 2, 5));
+    }
+
     private static void fills() {
         PackSeeds x = with(3, 6, 1);
         x.care(0, 0, 2, 1);
@@ -255,6 +285,14 @@ public final class MachineTest {
         check.due("with the fill", 7, () -> x.signature(0, 3));
         x.seed(1);
         check.due("with the seed", 5, () -> x.signature(0, 3));
+    }
+
+    private static void signatureOfTheLast() {
+        PackSeeds x = with(1, 1, 24);
+        x.care(23, 0, 0, 1);
+        check.due("pattern 23", 1, () -> x.signature(0, 23));
+        check.due("pattern 23, asked for more", 1, () -> x.signature(23, 24));
+        check.due("without it", 0, () -> x.signature(0, 22));
     }
 
     private static void signatureRefuses() {

@@ -17,6 +17,7 @@ public final class PatternsTest {
         joinAndSeeds();
         found();
         dropFromTheLast();
+        dropOfAll();
         dropWithoutFaults();
         finders();
         mask();
@@ -231,6 +232,16 @@ public final class PatternsTest {
         y.found(1, 5);
         check.due("drop() of two alike", 1, y::drop);
         check.due("the first stays", NONE, () -> y.seedOf(0));
+    }
+
+    private static void dropOfAll() {
+        PackSeeds x = with(1, 1, 24);
+        for (int i = 0; i < 24; i++) {
+            x.found(i, 30);
+        }
+        check.due("drop() of 24 alike", 1, x::drop);
+        check.noIndex("the last is gone", () -> x.seedOf(23));
+        check.due("the first of 24 stays", NONE, () -> x.seedOf(0));
     }
 
     private static void dropWithoutFaults() {
