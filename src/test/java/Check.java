@@ -1,4 +1,4 @@
-/** Counts answers that are not the ones that are due, and ends a test. */
+/** What the tests share: it counts answers that are not the ones that are due, and ends a test. */
 final class Check {
     /** A call whose answer, or whose exception, is looked at. */
     interface Call {
@@ -28,6 +28,15 @@ final class Check {
         if (wrong != 0) {
             System.exit(1);
         }
+    }
+
+    /** A new object with so many patterns. */
+    static PackSeeds with(int chains, int cells, int patterns) {
+        PackSeeds x = new PackSeeds(chains, cells);
+        for (int i = 0; i < patterns; i++) {
+            x.pattern();
+        }
+        return x;
     }
 
     /** The exception's own class, so that one below the class that is due is seen as wrong. */

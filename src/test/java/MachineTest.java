@@ -26,14 +26,6 @@ public final class MachineTest {
         check.end();
     }
 
-    private static PackSeeds with(int chains, int cells, int patterns) {
-        PackSeeds x = new PackSeeds(chains, cells);
-        for (int i = 0; i < patterns; i++) {
-            x.pattern();
-        }
-        return x;
-    }
-
     /** Bits of a pattern, chain by chain, the cell 0 first. */
     private static String bits(PackSeeds x, int pattern, int chains, int cells) {
         StringBuilder text = new StringBuilder();
@@ -52,7 +44,7 @@ public final class MachineTest {
     }
 
     private static void degree() {
-        PackSeeds x = with(1, 2, 1);
+        PackSeeds x = Check.with(1, 2, 1);
         x.machine(3, true);
         x.seed(0);
         int[] wrong = {0, 17, -1, Integer.MIN_VALUE, Integer.MAX_VALUE};
@@ -97,7 +89,7 @@ public final class MachineTest {
     }
 
     private static void machineTakesSeeds() {
-        PackSeeds x = with(1, 2, 2);
+        PackSeeds x = Check.with(1, 2, 2);
         x.seed(0);
         x.seed(1);
         x.machine(7, true);
@@ -110,7 +102,7 @@ public final class MachineTest {
 
     /** Degree 8: chain 0 gets stage 1 first, then stage 0, then what came in. */
     private static void leastSeed() {
-        PackSeeds x = with(1, 4, 1);
+        PackSeeds x = Check.with(1, 4, 1);
         x.care(0, 0, 3, 1);
         check.due("seed(0)", 0, () -> x.seed(0));
         check.due("at clock 0 stage 1 is heard", 2, () -> x.seedOf(0));
@@ -131,7 +123,7 @@ public final class MachineTest {
     }
 
     private static void seedOfNothing() {
-        PackSeeds x = with(4, 8, 1);
+        PackSeeds x = Check.with(4, 8, 1);
         check.due("seedOf at first", NONE, () -> x.seedOf(0));
         check.due("seed(0)", 0, () -> x.seed(0));
         check.due("seedOf(0)", 0, () -> x.seedOf(0));
@@ -143,7 +135,7 @@ public final class MachineTest {
 
     /** Degree 1 gives all cells the same. */
     private static void noSeed() {
-        PackSeeds x = with(2, 2, 1);
+        PackSeeds x = Check.with(2, 2, 1);
         x.degree(1);
         x.care(0, 0, 0, 1);
         check.due("seed of degree 1", 0, () -> x.seed(0));
@@ -161,7 +153,7 @@ public final class MachineTest {
      * Chain 0 hears stage 1, chain 1 stage 0, chain 2 stage 2, chain 3 stage 1.
      */
     private static void bitsOfASeed() {
-        PackSeeds x = with(4, 4, 1);
+        PackSeeds x = Check.with(4, 4, 1);
         x.degree(3);
         x.machine(1, true);
         x.care(0, 1, 3, 1);
@@ -177,7 +169,7 @@ public final class MachineTest {
 
     /** Degree 5: (5 c + 1) modulo 5 is stage 1 for each chain. */
     private static void chainsSharingStages() {
-        PackSeeds x = with(4, 3, 1);
+        PackSeeds x = Check.with(4, 3, 1);
         x.degree(5);
         x.care(0, 0, 1, 1);
         x.seed(0);
@@ -188,7 +180,7 @@ public final class MachineTest {
 
     /** Degree 16: chain 3 hears stage 0 first; chain 0 alone hears stage 1 then. */
     private static void lastCellOfAll() {
-        PackSeeds x = with(4, 8, 1);
+        PackSeeds x = Check.with(4, 8, 1);
         x.degree(16);
         x.care(0, 3, 7, 1);
         check.due("seed(0)", 0, () -> x.seed(0));
@@ -203,7 +195,7 @@ public final class MachineTest {
     }
 
     private static void fillFromTheFirstCell() {
-        PackSeeds x = with(2, 5, 1);
+        PackSeeds x = Check.with(2, 5, 1);
         x.fill(2);
         x.care(0, 0, 1, 0);
         x.care(0, 0, 3, 1);
@@ -213,7 +205,7 @@ public final class MachineTest {
     }
 
     private static void fills() {
-        PackSeeds x = with(3, 6, 1);
+        PackSeeds x = Check.with(3, 6, 1);
         x.care(0, 0, 2, 1);
         x.care(0, 0, 4, 0);
         x.care(0, 1, 1, 0);
@@ -234,7 +226,7 @@ public final class MachineTest {
     }
 
     private static void fillLeavesSeeds() {
-        PackSeeds x = with(1, 2, 1);
+        PackSeeds x = Check.with(1, 2, 1);
         x.seed(0);
         x.fill(1);
         check.due("seed stays", 0, () -> x.seedOf(0));
@@ -245,7 +237,7 @@ public final class MachineTest {
 
     /** Degree 3, the last alone tapped: a step turns the stages round. */
     private static void signatureByHand() {
-        PackSeeds x = with(4, 2, 1);
+        PackSeeds x = Check.with(4, 2, 1);
         x.degree(3);
         x.care(0, 0, 1, 1);
         check.due("chain 0, clock 0", 2, () -> x.signature(0, 0));
@@ -263,7 +255,7 @@ public final class MachineTest {
 
     /** One cell: pattern by pattern a step, then the bit; degree 8 keeps them in order. */
     private static void signatureOverPatterns() {
-        PackSeeds x = with(1, 1, 4);
+        PackSeeds x = Check.with(1, 1, 4);
         x.care(0, 0, 0, 1);
         x.care(2, 0, 0, 1);
         x.care(3, 0, 0, 1);
@@ -288,7 +280,7 @@ public final class MachineTest {
     }
 
     private static void signatureOfTheLast() {
-        PackSeeds x = with(1, 1, 24);
+        PackSeeds x = Check.with(1, 1, 24);
         x.care(23, 0, 0, 1);
         check.due("pattern 23", 1, () -> x.signature(0, 23));
         check.due("pattern 23, asked for more", 1, () -> x.signature(23, 24));
@@ -296,7 +288,7 @@ public final class MachineTest {
     }
 
     private static void signatureRefuses() {
-        PackSeeds x = with(1, 1, 2);
+        PackSeeds x = Check.with(1, 1, 2);
         check.noArgument("signature(-1, 0)", () -> x.signature(-1, 0));
         check.noArgument("signature(-2, -1)", () -> x.signature(-2, -1));
         check.noArgument("signature(1, 0)", () -> x.signature(1, 0));
@@ -352,7 +344,7 @@ public final class MachineTest {
     }
 
     private static void shifts() {
-        PackSeeds x = with(2, 4, 1);
+        PackSeeds x = Check.with(2, 4, 1);
         check.due("all 0", 0, () -> x.shifts(0));
         x.care(0, 0, 0, 1);
         check.due("0 and 1 differ", 1, () -> x.shifts(0));
@@ -365,10 +357,10 @@ public final class MachineTest {
         check.noIndex("shifts(1)", () -> x.shifts(1));
         check.noIndex("shifts(-1)", () -> x.shifts(-1));
         check.noIndex("shifts(24)", () -> x.shifts(24));
-        PackSeeds y = with(4, 1, 1);
+        PackSeeds y = Check.with(4, 1, 1);
         y.care(0, 1, 0, 1);
         check.due("one cell alone has none behind it", 0, () -> y.shifts(0));
-        PackSeeds z = with(4, 8, 1);
+        PackSeeds z = Check.with(4, 8, 1);
         for (int c = 0; c < 4; c++) {
             for (int k = 0; k < 8; k += 2) {
                 z.care(0, c, k, 1);

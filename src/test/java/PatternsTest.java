@@ -26,14 +26,6 @@ public final class PatternsTest {
         check.end();
     }
 
-    private static PackSeeds with(int chains, int cells, int patterns) {
-        PackSeeds x = new PackSeeds(chains, cells);
-        for (int i = 0; i < patterns; i++) {
-            x.pattern();
-        }
-        return x;
-    }
-
     private static void newObject() {
         PackSeeds x = new PackSeeds(2, 3);
         check.due("new count(0)", 0, () -> x.count(0));
@@ -57,7 +49,7 @@ public final class PatternsTest {
             {Integer.MAX_VALUE, Integer.MAX_VALUE}, {0, 9}, {5, 0}};
         int[][] had = {{1, 1}, {1, 1}, {1, 1}, {1, 1}, {4, 8}, {4, 8}, {4, 8}, {1, 8}, {4, 1}};
         for (int i = 0; i < asked.length; i++) {
-            PackSeeds x = with(asked[i][0], asked[i][1], 1);
+            PackSeeds x = Check.with(asked[i][0], asked[i][1], 1);
             int chains = had[i][0];
             int cells = had[i][1];
             String shape = asked[i][0] + " x " + asked[i][1] + ": ";
@@ -77,7 +69,7 @@ public final class PatternsTest {
     }
 
     private static void goneNumbersStayTaken() {
-        PackSeeds x = with(1, 1, 3);
+        PackSeeds x = Check.with(1, 1, 3);
         check.due("join() of three alike", 1, x::join);
         check.due("pattern() after gone ones", 3, x::pattern);
         for (int i = 4; i < 24; i++) {
@@ -88,7 +80,7 @@ public final class PatternsTest {
     }
 
     private static void care() {
-        PackSeeds x = with(2, 2, 2);
+        PackSeeds x = Check.with(2, 2, 2);
         check.due("care NONE at first", false, () -> x.care(0, 0, 0, NONE));
         check.due("care 0", true, () -> x.care(0, 0, 0, 0));
         check.due("care 0 again", false, () -> x.care(0, 0, 0, 0));
@@ -104,7 +96,7 @@ public final class PatternsTest {
     }
 
     private static void careRefuses() {
-        PackSeeds x = with(2, 3, 1);
+        PackSeeds x = Check.with(2, 3, 1);
         x.care(0, 0, 0, 1);
         int[] wrongValues = {2, -2, Integer.MIN_VALUE, Integer.MAX_VALUE};
         for (int v : wrongValues) {
@@ -126,7 +118,7 @@ public final class PatternsTest {
     }
 
     private static void careTakesTheSeed() {
-        PackSeeds x = with(1, 4, 1);
+        PackSeeds x = Check.with(1, 4, 1);
         x.care(0, 0, 0, 1);
         x.seed(0);
         check.due("care of the same", false, () -> x.care(0, 0, 0, 1));
@@ -142,7 +134,7 @@ public final class PatternsTest {
 
     /** 0 and 2 go together, and 1 and 3; 0 is asked before 1. */
     private static void joinTakesInOrder() {
-        PackSeeds x = with(1, 2, 4);
+        PackSeeds x = Check.with(1, 2, 4);
         x.care(0, 0, 0, 0);
         x.care(1, 0, 0, 1);
         x.care(2, 0, 1, 1);
@@ -157,7 +149,7 @@ public final class PatternsTest {
 
     /** 0 alone goes with 2, but no more when it has taken 1. */
     private static void joinTakesByThen() {
-        PackSeeds x = with(1, 3, 4);
+        PackSeeds x = Check.with(1, 3, 4);
         x.care(0, 0, 0, 1);
         x.care(1, 0, 1, 0);
         x.care(2, 0, 1, 1);
@@ -168,7 +160,7 @@ public final class PatternsTest {
     }
 
     private static void joinHandsOverAll() {
-        PackSeeds x = with(2, 2, 2);
+        PackSeeds x = Check.with(2, 2, 2);
         x.care(0, 0, 0, 1);
         x.care(1, 1, 1, 1);
         x.care(1, 1, 0, 0);
@@ -186,7 +178,7 @@ public final class PatternsTest {
     }
 
     private static void joinAndSeeds() {
-        PackSeeds x = with(1, 2, 3);
+        PackSeeds x = Check.with(1, 2, 3);
         x.care(0, 0, 0, 0);
         x.care(1, 0, 0, 1);
         x.care(2, 0, 0, 0);
@@ -202,7 +194,7 @@ public final class PatternsTest {
     }
 
     private static void found() {
-        PackSeeds x = with(1, 1, 2);
+        PackSeeds x = Check.with(1, 1, 2);
         check.due("found(0, 30)", true, () -> x.found(0, 30));
         check.due("found(0, 30) again", false, () -> x.found(0, 30));
         check.due("found(1, 30)", true, () -> x.found(1, 30));
@@ -217,7 +209,7 @@ public final class PatternsTest {
 
     /** 0 {1}, 1 {1, 2}, 2 {2}: from the last one, 2 goes, 1 must stay, 0 goes. */
     private static void dropFromTheLast() {
-        PackSeeds x = with(1, 1, 3);
+        PackSeeds x = Check.with(1, 1, 3);
         x.found(0, 1);
         x.found(1, 1);
         x.found(1, 2);
@@ -227,7 +219,7 @@ public final class PatternsTest {
         check.noIndex("0 is gone", () -> x.seedOf(0));
         check.noIndex("2 is gone", () -> x.seedOf(2));
         check.due("drop() again", 1, x::drop);
-        PackSeeds y = with(1, 1, 2);
+        PackSeeds y = Check.with(1, 1, 2);
         y.found(0, 5);
         y.found(1, 5);
         check.due("drop() of two alike", 1, y::drop);
@@ -235,7 +227,7 @@ public final class PatternsTest {
     }
 
     private static void dropOfAll() {
-        PackSeeds x = with(1, 1, 24);
+        PackSeeds x = Check.with(1, 1, 24);
         for (int i = 0; i < 24; i++) {
             x.found(i, 30);
         }
@@ -245,16 +237,16 @@ public final class PatternsTest {
     }
 
     private static void dropWithoutFaults() {
-        PackSeeds x = with(1, 1, 2);
+        PackSeeds x = Check.with(1, 1, 2);
         x.found(0, 0);
         check.due("drop() of one without faults", 1, x::drop);
         check.noIndex("it is gone", () -> x.seedOf(1));
-        PackSeeds y = with(1, 1, 1);
+        PackSeeds y = Check.with(1, 1, 1);
         check.due("drop() of the only one, without faults", 0, y::drop);
     }
 
     private static void finders() {
-        PackSeeds x = with(1, 1, 3);
+        PackSeeds x = Check.with(1, 1, 3);
         x.found(0, 7);
         x.found(1, 7);
         x.found(1, 8);
@@ -270,7 +262,7 @@ public final class PatternsTest {
     }
 
     private static void mask() {
-        PackSeeds x = with(2, 2, 2);
+        PackSeeds x = Check.with(2, 2, 2);
         x.seed(0);
         check.due("mask", true, () -> x.mask(0, 1, 1));
         check.due("mask again", false, () -> x.mask(0, 1, 1));
@@ -280,7 +272,7 @@ public final class PatternsTest {
     }
 
     private static void gonePatternsAreRefused() {
-        PackSeeds x = with(2, 2, 2);
+        PackSeeds x = Check.with(2, 2, 2);
         x.join();
         check.noIndex("care", () -> x.care(1, 0, 0, 5));
         check.noIndex("seed", () -> x.seed(1));
@@ -292,7 +284,7 @@ public final class PatternsTest {
     }
 
     private static void count() {
-        PackSeeds x = with(2, 2, 3);
+        PackSeeds x = Check.with(2, 2, 3);
         x.care(0, 0, 0, 0);
         x.care(1, 0, 0, 1);
         x.care(1, 0, 1, 1);
@@ -317,7 +309,7 @@ public final class PatternsTest {
         check.due("count(1) without the gone", 2, () -> x.count(1));
         check.due("count(2) without the gone", 2, () -> x.count(2));
         check.due("count(4) without the gone", 2, () -> x.count(4));
-        PackSeeds y = with(1, 1, 2);
+        PackSeeds y = Check.with(1, 1, 2);
         y.found(0, 1);
         y.seed(0);
         y.seed(1);
