@@ -39,6 +39,24 @@ final class Check {
         return x;
     }
 
+    /** Bits of a pattern, chain by chain, the cell 0 first. */
+    static String bits(PackSeeds x, int pattern, int chains, int cells) {
+        StringBuilder text = new StringBuilder();
+        for (int c = 0; c < chains; c++) {
+            text.append(c == 0 ? "" : " ");
+            for (int k = 0; k < cells; k++) {
+                text.append(x.bit(pattern, c, k));
+            }
+        }
+        return text.toString();
+    }
+
+    /** As a call with an answer, so that it can be looked at like the others. */
+    static Object degree(PackSeeds x, int d) {
+        x.degree(d);
+        return "done";
+    }
+
     /** The exception's own class, so that one below the class that is due is seen as wrong. */
     static String told(Call made) {
         try {

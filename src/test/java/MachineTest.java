@@ -26,34 +26,17 @@ public final class MachineTest {
         check.end();
     }
 
-    /** Bits of a pattern, chain by chain, the cell 0 first. */
-    private static String bits(PackSeeds x, int pattern, int chains, int cells) {
-        StringBuilder text = new StringBuilder();
-        for (int c = 0; c < chains; c++) {
-            text.append(c == 0 ? "" : " ");
-            for (int k = 0; k < cells; k++) {
-                text.append(x.bit(pattern, c, k));
-            }
-        }
-        return text.toString();
-    }
-
-    private static Object degree(PackSeeds x, int d) {
-        x.degree(d);
-        return "done";
-    }
-
     private static void degree() {
         PackSeeds x = Check.with(1, 2, 1);
         x.machine(3, true);
         x.seed(0);
         int[] wrong = {0, 17, -1, Integer.MIN_VALUE, Integer.MAX_VALUE};
         for (int d : wrong) {
-            check.noArgument("degree(" + d + ")", () -> degree(x, d));
+            check.noArgument("degree(" + d + ")", () -> Check.degree(x, d));
         }
         check.due("a throw changes nothing", "8 0 false",
             () -> x.count(3) + " " + x.seedOf(0) + " " + x.machine(3, true));
-        check.due("degree(16)", "done", () -> degree(x, 16));
+        check.due("degree(16)", "done", () -> Check.degree(x, 16));
         check.due("the degree", 16, () -> x.count(3));
         check.due("seed is lost", NONE, () -> x.seedOf(0));
         check.due("the last stage is tapped", false, () -> x.machine(15, true));
@@ -61,10 +44,10 @@ public final class MachineTest {
         check.due("stage 7 is not tapped any more", false, () -> x.machine(7, false));
         x.machine(2, true);
         x.seed(0);
-        check.due("degree(16) again", "done", () -> degree(x, 16));
+        check.due("degree(16) again", "done", () -> Check.degree(x, 16));
         check.due("seed is lost again", NONE, () -> x.seedOf(0));
         check.due("the last stage alone is tapped again", false, () -> x.machine(2, false));
-        check.due("degree(1)", "done", () -> degree(x, 1));
+        check.due("degree(1)", "done", () -> Check.degree(x, 1));
         check.due("the degree 1", 1, () -> x.count(3));
     }
 
@@ -140,12 +123,12 @@ public final class MachineTest {
         x.care(0, 0, 0, 1);
         check.due("seed of degree 1", 0, () -> x.seed(0));
         check.due("it is 1", 1, () -> x.seedOf(0));
-        check.due("all have 1", "11 11", () -> bits(x, 0, 2, 2));
+        check.due("all have 1", "11 11", () -> Check.bits(x, 0, 2, 2));
         x.care(0, 1, 1, 0);
         check.due("there is none", 1, () -> x.seed(0));
         check.due("it has none", NONE, () -> x.seedOf(0));
         check.due("again there is none", 1, () -> x.seed(0));
-        check.due("bits by the fill", "10 00", () -> bits(x, 0, 2, 2));
+        check.due("bits by the fill", "10 00", () -> Check.bits(x, 0, 2, 2));
     }
 
     /**
@@ -161,9 +144,9 @@ public final class MachineTest {
         x.care(0, 2, 3, 0);
         check.due("seed(0)", 0, () -> x.seed(0));
         check.due("seedOf(0)", 1, () -> x.seedOf(0));
-        check.due("bits", "1010 1101 0100 1010", () -> bits(x, 0, 4, 4));
+        check.due("bits", "1010 1101 0100 1010", () -> Check.bits(x, 0, 4, 4));
         x.fill(1);
-        check.due("bits, whatever the fill", "1010 1101 0100 1010", () -> bits(x, 0, 4, 4));
+        check.due("bits, whatever the fill", "1010 1101 0100 1010", () -> Check.bits(x, 0, 4, 4));
         check.due("shifts of what the seed makes", 6 + 5 + 3 + 6, () -> x.shifts(0));
     }
 
@@ -173,7 +156,7 @@ public final class MachineTest {
         x.degree(5);
         x.care(0, 0, 1, 1);
         x.seed(0);
-        check.due("chains alike", "010 010 010 010", () -> bits(x, 0, 4, 3));
+        check.due("chains alike", "010 010 010 010", () -> Check.bits(x, 0, 4, 3));
         x.care(0, 3, 1, 0);
         check.due("they cannot differ", 1, () -> x.seed(0));
     }
@@ -185,7 +168,7 @@ public final class MachineTest {
         x.care(0, 3, 7, 1);
         check.due("seed(0)", 0, () -> x.seed(0));
         check.due("seedOf(0)", 1, () -> x.seedOf(0));
-        check.due("what it makes", "00000010 01000000 00000000 00000001", () -> bits(x, 0, 4, 8));
+        check.due("what it makes", "00000010 01000000 00000000 00000001", () -> Check.bits(x, 0, 4, 8));
         x.care(0, 0, 6, 0);
         check.due("stage 0 cannot be both", 1, () -> x.seed(0));
         x.care(0, 0, 6, NONE);
@@ -201,7 +184,7 @@ public final class MachineTest {
         x.care(0, 0, 3, 1);
         x.care(0, 1, 0, 1);
         x.care(0, 1, 3, 0);
-        check.due("a lesser number goes before a nearer one", "00011 11100", () -> bits(x, 0, 2, 5));
+        check.due("a lesser number goes before a nearer one", "00011 11100", () -> Check.bits(x, 0, 2, 5));
     }
 
     private static void fills() {
@@ -210,19 +193,19 @@ public final class MachineTest {
         x.care(0, 0, 4, 0);
         x.care(0, 1, 1, 0);
         x.care(0, 1, 5, 1);
-        check.due("fill 0", "001000 000001 000000", () -> bits(x, 0, 3, 6));
+        check.due("fill 0", "001000 000001 000000", () -> Check.bits(x, 0, 3, 6));
         check.due("fill(1)", true, () -> x.fill(1));
         check.due("fill(1) again", false, () -> x.fill(1));
-        check.due("fill 1", "111101 101111 111111", () -> bits(x, 0, 3, 6));
+        check.due("fill 1", "111101 101111 111111", () -> Check.bits(x, 0, 3, 6));
         check.due("fill(2)", true, () -> x.fill(2));
-        check.due("fill 2", "111100 000001 000000", () -> bits(x, 0, 3, 6));
+        check.due("fill 2", "111100 000001 000000", () -> Check.bits(x, 0, 3, 6));
         int[] wrong = {-1, 3, Integer.MIN_VALUE, Integer.MAX_VALUE};
         for (int kind : wrong) {
             check.noArgument("fill(" + kind + ")", () -> x.fill(kind));
         }
         check.due("a throw leaves the fill", false, () -> x.fill(2));
         check.due("fill(0)", true, () -> x.fill(0));
-        check.due("fill 0 again", "001000 000001 000000", () -> bits(x, 0, 3, 6));
+        check.due("fill 0 again", "001000 000001 000000", () -> Check.bits(x, 0, 3, 6));
     }
 
     private static void fillLeavesSeeds() {
@@ -230,9 +213,9 @@ public final class MachineTest {
         x.seed(0);
         x.fill(1);
         check.due("seed stays", 0, () -> x.seedOf(0));
-        check.due("bits by the seed", "00", () -> bits(x, 0, 1, 2));
+        check.due("bits by the seed", "00", () -> Check.bits(x, 0, 1, 2));
         x.degree(8);
-        check.due("bits by the fill", "11", () -> bits(x, 0, 1, 2));
+        check.due("bits by the fill", "11", () -> Check.bits(x, 0, 1, 2));
     }
 
     /** Degree 3, the last alone tapped: a step turns the stages round. */

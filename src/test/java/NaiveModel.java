@@ -163,7 +163,7 @@ final class NaiveModel {
         return number;
     }
 
-    private int[][] made(int seed) {
+    int[][] made(int seed) {
         int[][] bits = new int[chains][cells];
         int[] now = stages(seed);
         for (int t = 0; t < cells; t++) {
